@@ -894,7 +894,7 @@ public final class Inodery {
         }
 
         private boolean isEntry(int folder, int place) {
-            return isInRange(folder) && place >= 0 && place < ENTRIES && place < sizes[folder];
+            return folder >= 0 && folder < THINGS && place >= 0 && place < ENTRIES && place < sizes[folder];
         }
 
         int entryName(int folder, int place) {
@@ -913,9 +913,8 @@ public final class Inodery {
         }
 
         private int placeOf(int folder, int name) {
-            int size = sizeOf(folder);
-            for (int place = 0; place < size; place++) {
-                if (entryName(folder, place) == name) {
+            for (int place = 0; place < ENTRIES && isEntry(folder, place); place++) {
+                if (entryNames[folder * ENTRIES + place] == name) {
                     return place;
                 }
             }
@@ -999,7 +998,7 @@ public final class Inodery {
 
         void setPage(int thing, int page, int kind, int block) {
             if (isPageOf(thing, page)) {
-                countBlock(thing, blockOf(thing, page), -1);
+                countBlock(thing, pageBlocks[thing * PAGES + page], -1);
                 pageKinds[thing * PAGES + page] = kind;
                 pageBlocks[thing * PAGES + page] = block;
                 countBlock(thing, block, 1);
@@ -1159,7 +1158,7 @@ public final class Inodery {
         }
 
         void letGo(int thing, int page) {
-            if (isPageOf(thing, page) && isDirty(thing, page)) {
+            if (isPageOf(thing, page) && numbers[thing * PAGES + page] != NONE) {
                 numbers[thing * PAGES + page] = NONE;
                 many--;
             }

@@ -10,6 +10,7 @@ public final class DamageTest {
         pagesMended(due);
         thingsMended(due);
         allMended(due);
+        checksAgain(due);
         notCommitted(due);
         due.end();
     }
@@ -261,6 +262,33 @@ public final class DamageTest {
         due.is(0, () -> x.check());
         due.is(2, () -> x.dirty());
         due.is(2, () -> x.used(0));
+    }
+
+    /** What an earlier check has seen is nothing to a later one. */
+    private static void checksAgain(Due due) {
+        due.about("checks again");
+        Inodery x = new Inodery();
+        x.folder(1, 15);
+        x.file(102, 15);
+        x.file(3, 15);
+        x.file(4, 15);
+        x.open(4, true);
+        due.is(0, () -> x.write(0, 0, 1));
+        x.open(3, true);
+        x.damage(1, 3, 4);
+        due.fails(Due.STATE, () -> x.check());
+        x.close(1);
+        due.fails(Due.STATE, () -> x.check());
+        x.close(0);
+        due.is(10000, () -> x.check());
+        due.is(0, () -> x.page(3, 0, 1));
+        due.is(Inodery.HOLE, () -> x.page(4, 0, 0));
+        due.is(0, () -> x.check());
+        x.damage(2, 0, 0);
+        due.is(200, () -> x.check());
+        due.is(0, () -> x.check());
+        due.is(0, () -> x.page(3, 0, 1));
+        due.is(2, () -> x.about(0, 4));
     }
 
     private static void notCommitted(Due due) {

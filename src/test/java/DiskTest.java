@@ -4,11 +4,13 @@ public final class DiskTest {
         Due due = new Due("DiskTest");
         flushes(due);
         badBlocks(due);
+        firstAndLastBlock(due);
         syncs(due);
         commits(due);
         crashes(due);
         crashesOfNameless(due);
         crashesOfNames(due);
+        crashesOfMuch(due);
         snapshots(due);
         snapshotNumbers(due);
         sharedBlocks(due);
@@ -86,6 +88,29 @@ public final class DiskTest {
         x.crash();
         due.isTrue(x.bad(16, false));
         due.isFalse(x.bad(63, false));
+    }
+
+    private static void firstAndLastBlock(Due due) {
+        due.about("the first and the last block");
+        Inodery x = withFiles(4);
+        due.is(16, () -> x.ahead(2, 0, 15));
+        due.is(0, () -> x.write(3, 0, 7));
+        due.is(63, () -> x.write(2, 15, 8));
+        due.is(2, () -> x.commit());
+        due.is(7, () -> x.number(0));
+        due.is(8, () -> x.number(63));
+        due.is(7, () -> x.read(3, 0));
+        x.bad(0, true);
+        x.bad(63, true);
+        x.write(3, 0, 1);
+        x.write(2, 15, 2);
+        due.is(2, () -> x.flush(2));
+        due.is(7, () -> x.number(0));
+        due.is(8, () -> x.number(63));
+        due.isTrue(x.close(3));
+        due.isTrue(x.close(2));
+        due.isTrue(x.bad(0, false));
+        due.isTrue(x.bad(63, false));
     }
 
     private static void syncs(Due due) {
@@ -234,6 +259,37 @@ public final class DiskTest {
         due.is(101, () -> x.entry(0, 0));
         due.is(303, () -> x.entry(0, 1));
         due.is(4, () -> x.file(4, 15));
+    }
+
+    /** Things, entries and pages with the highest numbers come back as well. */
+    private static void crashesOfMuch(Due due) {
+        due.about("crash with much");
+        Inodery x = new Inodery();
+        for (int name = 1; name <= 7; name++) {
+            x.folder(name, 15);
+        }
+        for (int thing = 8; thing < 32; thing++) {
+            x.file(100 * (1 + thing % 7) + thing, 15);
+        }
+        x.open(431, true);
+        x.ahead(0, 0, 14);
+        x.write(0, 15, 5);
+        x.snapshot();
+        x.cut(0, 0);
+        for (int thing = 8; thing < 32; thing++) {
+            x.remove(100 * (1 + thing % 7) + thing);
+        }
+        due.is(0, () -> x.about(4, 4));
+        due.is(0, () -> x.crash());
+        for (int thing = 8; thing < 32; thing++) {
+            int each = thing;
+            due.is(each, () -> x.look(100 * (1 + each % 7) + each, false));
+        }
+        due.is(3131, () -> x.entry(4, 3));
+        due.is(63, () -> x.page(31, 15, 1));
+        due.is(Inodery.WRITTEN, () -> x.page(31, 15, 0));
+        due.is(Inodery.AHEAD, () -> x.page(31, 14, 0));
+        due.is(5, () -> x.readOld(0, 431, 15));
     }
 
     private static void snapshots(Due due) {

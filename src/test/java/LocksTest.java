@@ -118,7 +118,10 @@ public final class LocksTest {
         x.lock(0, 0, 15, true);
         due.fails(Due.STATE, () -> x.lock(1, 7, 7, false));
         x.close(0);
-        due.is(0, () -> x.lockOf(0, 7));
+        for (int page = 0; page < 16; page++) {
+            int each = page;
+            due.is(0, () -> x.lockOf(0, each));
+        }
         due.is(1, () -> x.lock(1, 7, 7, true));
         x.crash();
         due.is(0, () -> x.lockOf(1, 7));

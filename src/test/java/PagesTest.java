@@ -7,6 +7,7 @@ public final class PagesTest {
         reading(due);
         placesOfBlocks(due);
         groupsAround(due);
+        endOfGroup(due);
         fullDisk(due);
         aheads(due);
         aheadsRefused(due);
@@ -146,6 +147,22 @@ public final class PagesTest {
         due.is(16, () -> x.write(7, 12, 1));
         due.is(17, () -> x.write(7, 13, 1));
         due.is(18, () -> x.write(6, 5, 1));
+    }
+
+    private static void endOfGroup(Due due) {
+        due.about("end of a group");
+        Inodery x = withFiles(7);
+        due.is(14, () -> x.ahead(2, 0, 13));
+        due.is(62, () -> x.write(6, 0, 1));
+        due.is(14, () -> x.cut(2, 0));
+        due.is(63, () -> x.write(6, 1, 1));
+        due.is(48, () -> x.write(6, 2, 1));
+        due.is(15, () -> x.ahead(0, 0, 14));
+        due.is(31, () -> x.write(4, 0, 1));
+        due.is(15, () -> x.cut(0, 0));
+        due.is(16, () -> x.write(4, 1, 1));
+        due.is(17, () -> x.write(4, 2, 1));
+        due.isTrue(x.isFree(32));
     }
 
     private static void fullDisk(Due due) {
