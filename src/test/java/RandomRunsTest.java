@@ -97,11 +97,12 @@ public final class RandomRunsTest {
         }
     }
 
-    /** A number from one to another, rarely one beside them. */
+    /** A number from one to another, rarely one beside them, or far off. */
     private int from(int first, int last) {
         int odds = random.nextInt(isWild ? 20 : 60);
         if (odds == 0) return first - 1;
         if (odds == 1) return last + 1;
+        if (odds == 2 && isWild) return oneOf(Integer.MIN_VALUE, Integer.MAX_VALUE, -1000, 1000);
         return first + random.nextInt(last - first + 1);
     }
 
@@ -109,6 +110,7 @@ public final class RandomRunsTest {
         int odds = random.nextInt(60);
         if (odds == 0) return random.nextInt(3) * 50000000;
         if (odds == 1) return 0;
+        if (odds == 2 && isWild) return oneOf(Integer.MIN_VALUE, Integer.MAX_VALUE, 99999999, 100000000);
         if (odds < 30 && !paths.isEmpty()) return paths.get(random.nextInt(paths.size()));
         int path = 0;
         if (odds < 45 && !paths.isEmpty()) path = paths.get(random.nextInt(paths.size())) % 1000000;
