@@ -15,15 +15,6 @@ public final class DamageTest {
         due.end();
     }
 
-    private static Inodery withFiles(int many) {
-        Inodery x = new Inodery();
-        for (int i = 1; i <= many; i++) {
-            x.file(i, 15);
-            x.open(i, true);
-        }
-        return x;
-    }
-
     private static void counts(Due due) {
         due.about("damaged counts");
         Inodery x = new Inodery();
@@ -49,7 +40,7 @@ public final class DamageTest {
         due.fails(Due.INDEX, () -> x.about(2, 0));
 
         due.about("a damaged count of an open file");
-        Inodery y = withFiles(1);
+        Inodery y = Disks.withFiles(1);
         y.damage(0, 1, 0);
         due.isFalse(y.remove(1));
         due.isFalse(y.close(0));
@@ -75,7 +66,7 @@ public final class DamageTest {
 
     private static void sharedPages(Due due) {
         due.about("shared pages");
-        Inodery x = withFiles(2);
+        Inodery x = Disks.withFiles(2);
         x.write(0, 0, 1);
         x.ahead(1, 0, 0);
         x.damage(1, 1, 2);
@@ -135,7 +126,7 @@ public final class DamageTest {
 
     private static void refused(Due due) {
         due.about("damage refused");
-        Inodery x = withFiles(2);
+        Inodery x = Disks.withFiles(2);
         x.folder(3, 15);
         x.link(4, 1);
         x.write(0, 0, 5);
@@ -166,7 +157,7 @@ public final class DamageTest {
 
     private static void pagesMended(Due due) {
         due.about("pages mended");
-        Inodery x = withFiles(3);
+        Inodery x = Disks.withFiles(3);
         x.write(1, 0, 5);
         x.damage(1, 1, 2);
         x.damage(1, 3, 2);
@@ -189,7 +180,7 @@ public final class DamageTest {
         due.is(7, () -> x.number(32));
 
         due.about("pages of a lost file ahead");
-        Inodery y = withFiles(2);
+        Inodery y = Disks.withFiles(2);
         y.write(1, 0, 5);
         y.damage(1, 1, 2);
         y.damage(2, 0, 0);
@@ -225,7 +216,7 @@ public final class DamageTest {
         due.is(0, () -> x.check());
 
         due.about("things mended with their pages");
-        Inodery y = withFiles(1);
+        Inodery y = Disks.withFiles(1);
         y.bad(16, true);
         y.write(0, 0, 5);
         y.flush(1);
@@ -246,7 +237,7 @@ public final class DamageTest {
 
     private static void allMended(Due due) {
         due.about("all mended");
-        Inodery x = withFiles(3);
+        Inodery x = Disks.withFiles(3);
         x.folder(4, 15);
         x.file(405, 15);
         x.write(0, 0, 1);
@@ -293,7 +284,7 @@ public final class DamageTest {
 
     private static void notCommitted(Due due) {
         due.about("damage is of the state of now");
-        Inodery x = withFiles(2);
+        Inodery x = Disks.withFiles(2);
         x.write(0, 0, 1);
         x.commit();
         x.damage(0, 1, 0);

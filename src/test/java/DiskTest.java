@@ -20,18 +20,9 @@ public final class DiskTest {
         due.end();
     }
 
-    private static Inodery withFiles(int many) {
-        Inodery x = new Inodery();
-        for (int i = 1; i <= many; i++) {
-            x.file(i, 15);
-            x.open(i, true);
-        }
-        return x;
-    }
-
     private static void flushes(Due due) {
         due.about("flush");
-        Inodery x = withFiles(2);
+        Inodery x = Disks.withFiles(2);
         x.write(1, 0, 10);
         x.write(0, 3, 11);
         x.write(0, 1, 12);
@@ -60,7 +51,7 @@ public final class DiskTest {
 
     private static void badBlocks(Due due) {
         due.about("bad");
-        Inodery x = withFiles(2);
+        Inodery x = Disks.withFiles(2);
         due.isFalse(x.bad(16, true));
         due.isTrue(x.bad(16, true));
         due.fails(Due.INDEX, () -> x.bad(64, true));
@@ -92,7 +83,7 @@ public final class DiskTest {
 
     private static void firstAndLastBlock(Due due) {
         due.about("the first and the last block");
-        Inodery x = withFiles(4);
+        Inodery x = Disks.withFiles(4);
         due.is(16, () -> x.ahead(2, 0, 15));
         due.is(0, () -> x.write(3, 0, 7));
         due.is(63, () -> x.write(2, 15, 8));
@@ -115,7 +106,7 @@ public final class DiskTest {
 
     private static void syncs(Due due) {
         due.about("sync");
-        Inodery x = withFiles(2);
+        Inodery x = Disks.withFiles(2);
         x.open(2, false);
         x.write(0, 0, 1);
         x.write(1, 0, 2);
@@ -142,7 +133,7 @@ public final class DiskTest {
         due.fails(Due.STATE, () -> x.sync(0));
 
         due.about("sync ahead of the others");
-        Inodery y = withFiles(2);
+        Inodery y = Disks.withFiles(2);
         y.write(1, 0, 1);
         y.damage(1, 1, 2);
         due.is(32, () -> y.write(0, 0, 50));
@@ -157,7 +148,7 @@ public final class DiskTest {
 
     private static void commits(Due due) {
         due.about("commit");
-        Inodery x = withFiles(2);
+        Inodery x = Disks.withFiles(2);
         due.is(0, () -> x.commit());
         x.write(1, 0, 1);
         x.write(0, 7, 2);
@@ -179,7 +170,7 @@ public final class DiskTest {
 
     private static void crashes(Due due) {
         due.about("crash");
-        Inodery x = withFiles(2);
+        Inodery x = Disks.withFiles(2);
         x.bad(16, true);
         x.write(0, 0, 1);
         x.commit();
@@ -211,7 +202,7 @@ public final class DiskTest {
 
     private static void crashesOfNameless(Due due) {
         due.about("crash with a nameless file");
-        Inodery x = withFiles(1);
+        Inodery x = Disks.withFiles(1);
         x.write(0, 0, 1);
         x.remove(1);
         due.is(1, () -> x.commit());
@@ -231,7 +222,7 @@ public final class DiskTest {
         due.isTrue(x.isFree(16));
 
         due.about("crash with a damaged count");
-        Inodery y = withFiles(1);
+        Inodery y = Disks.withFiles(1);
         y.damage(0, 1, 0);
         due.isFalse(y.remove(1));
         y.commit();
@@ -294,7 +285,7 @@ public final class DiskTest {
 
     private static void snapshots(Due due) {
         due.about("snapshot");
-        Inodery x = withFiles(1);
+        Inodery x = Disks.withFiles(1);
         x.write(0, 0, 1);
         due.is(0, () -> x.snapshot());
         due.is(0, () -> x.dirty());
@@ -319,7 +310,7 @@ public final class DiskTest {
 
     private static void snapshotNumbers(Due due) {
         due.about("snapshot numbers");
-        Inodery x = withFiles(1);
+        Inodery x = Disks.withFiles(1);
         due.is(0, () -> x.snapshot());
         due.is(1, () -> x.snapshot());
         due.is(2, () -> x.snapshot());
@@ -343,7 +334,7 @@ public final class DiskTest {
 
     private static void sharedBlocks(Due due) {
         due.about("shared blocks");
-        Inodery x = withFiles(1);
+        Inodery x = Disks.withFiles(1);
         x.ahead(0, 0, 2);
         x.snapshot();
         due.is(19, () -> x.write(0, 1, 5));
@@ -370,7 +361,7 @@ public final class DiskTest {
 
     private static void drops(Due due) {
         due.about("drop");
-        Inodery x = withFiles(2);
+        Inodery x = Disks.withFiles(2);
         x.write(0, 0, 1);
         x.write(1, 0, 2);
         x.snapshot();
@@ -397,7 +388,7 @@ public final class DiskTest {
 
     private static void oldReads(Due due) {
         due.about("readOld");
-        Inodery x = withFiles(1);
+        Inodery x = Disks.withFiles(1);
         x.folder(3, 0);
         x.link(4, 1);
         x.link(5, 9);
@@ -433,7 +424,7 @@ public final class DiskTest {
 
     private static void oldPaths(Due due) {
         due.about("paths in a snapshot");
-        Inodery x = withFiles(1);
+        Inodery x = Disks.withFiles(1);
         x.link(4, 1);
         x.write(0, 0, 3);
         x.snapshot();

@@ -16,18 +16,9 @@ public final class PagesTest {
         due.end();
     }
 
-    private static Inodery withFiles(int many) {
-        Inodery x = new Inodery();
-        for (int i = 1; i <= many; i++) {
-            x.file(i, 15);
-            x.open(i, true);
-        }
-        return x;
-    }
-
     private static void writing(Due due) {
         due.about("write");
-        Inodery x = withFiles(1);
+        Inodery x = Disks.withFiles(1);
         due.is(16, () -> x.write(0, 0, 255));
         due.is(Inodery.WRITTEN, () -> x.page(1, 0, 0));
         due.is(16, () -> x.page(1, 0, 1));
@@ -48,7 +39,7 @@ public final class PagesTest {
 
     private static void writingRefused(Due due) {
         due.about("write refused");
-        Inodery x = withFiles(1);
+        Inodery x = Disks.withFiles(1);
         x.open(1, false);
         due.fails(Due.INDEX, () -> x.write(2, 0, 1));
         due.fails(Due.INDEX, () -> x.write(-1, 0, 1));
@@ -71,7 +62,7 @@ public final class PagesTest {
 
     private static void reading(Due due) {
         due.about("read");
-        Inodery x = withFiles(1);
+        Inodery x = Disks.withFiles(1);
         x.open(1, false);
         due.is(0, () -> x.read(0, 0));
         x.ahead(0, 0, 0);
@@ -93,7 +84,7 @@ public final class PagesTest {
         due.fails(Due.INDEX, () -> x.read(0, 16));
 
         due.about("read of a page ahead on an old block");
-        Inodery y = withFiles(1);
+        Inodery y = Disks.withFiles(1);
         y.write(0, 0, 9);
         y.flush(1);
         y.cut(0, 0);
@@ -107,7 +98,7 @@ public final class PagesTest {
 
     private static void placesOfBlocks(Due due) {
         due.about("places of blocks");
-        Inodery x = withFiles(5);
+        Inodery x = Disks.withFiles(5);
         due.is(16, () -> x.write(0, 3, 1));
         due.is(17, () -> x.write(0, 4, 1));
         due.is(18, () -> x.write(4, 0, 1));
@@ -132,7 +123,7 @@ public final class PagesTest {
 
     private static void groupsAround(Due due) {
         due.about("groups, round");
-        Inodery x = withFiles(8);
+        Inodery x = Disks.withFiles(8);
         due.is(16, () -> x.ahead(2, 0, 15));
         due.is(48, () -> x.page(3, 0, 1));
         due.is(63, () -> x.page(3, 15, 1));
@@ -151,7 +142,7 @@ public final class PagesTest {
 
     private static void endOfGroup(Due due) {
         due.about("end of a group");
-        Inodery x = withFiles(7);
+        Inodery x = Disks.withFiles(7);
         due.is(14, () -> x.ahead(2, 0, 13));
         due.is(62, () -> x.write(6, 0, 1));
         due.is(14, () -> x.cut(2, 0));
@@ -167,7 +158,7 @@ public final class PagesTest {
 
     private static void fullDisk(Due due) {
         due.about("full disk");
-        Inodery x = withFiles(5);
+        Inodery x = Disks.withFiles(5);
         for (int i = 0; i < 4; i++) {
             int each = i;
             due.is(16, () -> x.ahead(each, 0, 15));
@@ -200,7 +191,7 @@ public final class PagesTest {
 
     private static void aheads(Due due) {
         due.about("ahead");
-        Inodery x = withFiles(1);
+        Inodery x = Disks.withFiles(1);
         x.write(0, 2, 5);
         due.is(4, () -> x.ahead(0, 0, 4));
         due.is(Inodery.AHEAD, () -> x.page(1, 0, 0));
@@ -224,7 +215,7 @@ public final class PagesTest {
 
     private static void aheadsRefused(Due due) {
         due.about("ahead refused");
-        Inodery x = withFiles(1);
+        Inodery x = Disks.withFiles(1);
         x.open(1, false);
         due.fails(Due.INDEX, () -> x.ahead(2, 0, 0));
         due.fails(Due.INDEX, () -> x.ahead(0, -1, 0));
@@ -245,7 +236,7 @@ public final class PagesTest {
 
     private static void cuts(Due due) {
         due.about("cut");
-        Inodery x = withFiles(1);
+        Inodery x = Disks.withFiles(1);
         x.open(1, false);
         x.write(0, 0, 1);
         x.write(0, 1, 2);
@@ -274,7 +265,7 @@ public final class PagesTest {
 
     private static void closings(Due due) {
         due.about("close");
-        Inodery x = withFiles(2);
+        Inodery x = Disks.withFiles(2);
         x.open(1, false);
         x.bad(16, true);
         x.write(0, 0, 1);
@@ -290,7 +281,7 @@ public final class PagesTest {
         due.fails(Due.INDEX, () -> x.close(-1));
 
         due.about("close of one without names");
-        Inodery y = withFiles(1);
+        Inodery y = Disks.withFiles(1);
         y.bad(16, true);
         y.write(0, 0, 1);
         y.commit();
