@@ -8,6 +8,10 @@ final class Due {
         void happen();
     }
 
+    interface ActOn {
+        void happen(int value);
+    }
+
     static final Class<IllegalArgumentException> ARGUMENT = IllegalArgumentException.class;
     static final Class<IndexOutOfBoundsException> INDEX = IndexOutOfBoundsException.class;
     static final Class<IllegalStateException> STATE = IllegalStateException.class;
@@ -54,6 +58,13 @@ final class Due {
             got = e.getClass().getName();
         }
         compare(want.getName(), got);
+    }
+
+    /** Refused beside each end of a range, and as far off from it as can be. */
+    void outside(Class<? extends RuntimeException> want, int first, int last, ActOn act) {
+        for (int value : new int[] {Integer.MIN_VALUE, first - 1, last + 1, Integer.MAX_VALUE}) {
+            fails(want, () -> act.happen(value));
+        }
     }
 
     private void compare(String want, String got) {

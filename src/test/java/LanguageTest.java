@@ -31,6 +31,7 @@ public final class LanguageTest {
             due.isFalse(Pattern.compile(pattern).matcher(source).find());
         }
         checkThrows(due, source);
+        checkMakes(due, source);
         checkLengths(due, source);
         checkClasses(due);
         due.end();
@@ -41,6 +42,16 @@ public final class LanguageTest {
         int all = source.split("\\bthrow\\b", -1).length;
         String written = "\\bthrow new (IllegalState|IllegalArgument|IndexOutOfBounds)Exception\\(\"[^\"]*\"\\);";
         due.is(all, () -> source.split(written, -1).length);
+    }
+
+    /** Rows are made with the object alone, so that calls take no room. */
+    private static void checkMakes(Due due, String source) {
+        due.about("what is made");
+        Pattern ofField = Pattern.compile(" +private final [\\w\\[\\]]+ \\w+ = new \\w+(\\(\\)|\\[[A-Z_ *]+\\]);");
+        for (String line : source.split("\n")) {
+            boolean makes = line.contains("new ") && !line.contains("throw new ");
+            due.isTrue(!makes || ofField.matcher(line).matches() || line.equals("            snapshots[i] = new Tree();"));
+        }
     }
 
     /** Counts from a line that opens a method to the line that closes it with the same indentation. */
