@@ -12,6 +12,7 @@ public final class EdgesOfDamageTest {
         checkPagesOfAll(due);
         checkThings(due);
         checkManyThings(due);
+        checkManyEntries(due);
         checkCounts(due);
         about(due);
         aboutOfEach(due);
@@ -319,6 +320,27 @@ public final class EdgesOfDamageTest {
         y.damage(2, 1, 0);
         due.is(400, () -> y.check());
         due.is(2, () -> y.about(0, 4));
+    }
+
+    private static void checkManyEntries(Due due) {
+        due.about("31: there are more entries than there can be things");
+        Inodery x = new Inodery();
+        x.file(8, 15);
+        for (int name = 1; name <= 7; name++) {
+            x.folder(name, 15);
+        }
+        for (int i = 0; i < 48; i++) {
+            x.hard(8, 101 + 100 * (i / 8) + i % 8);
+        }
+        x.folder(701, 15);
+        x.file(70109, 15);
+        due.is(49, () -> x.about(1, 3));
+        due.is(0, () -> x.check());
+        due.is(10, () -> x.look(70109, false));
+        x.damage(2, 0, 0);
+        due.is(101, () -> x.check());
+        due.is(41, () -> x.about(1, 3));
+        due.is(10, () -> x.look(70109, false));
     }
 
     private static void checkCounts(Due due) {
