@@ -1,7 +1,7 @@
 import java.util.List;
 import java.util.function.Supplier;
 
-/** "A call of a method that throws an exception changes nothing": each cause of each method, and all that can be seen. */
+/** "A call of a method that throws an exception changes nothing": each exception of each method. */
 public final class UnchangedTest {
     interface Refused {
         void call(Inodery x);
